@@ -218,6 +218,8 @@ public final class ScriptTest {
         CHECK.same("promise 30: level(0, 0, 1)", x.simulate(seedFor(3 + 16 * 16), 1), 1);
         CHECK.same("promise 30: sit(0, 1)", x.simulate(seedFor(12), 1), 100);
         CHECK.same("promise 30: sit(0, 61)", x.simulate(seedFor(15 + 16 * 16 * 60), 1), 1);
+        CHECK.same("promise 30: sit(0, 60)", x.simulate(seedFor(13 + 16 * 950), 1), 1);
+        CHECK.same("promise 30: sit(0, 59)", x.simulate(seedFor(14 + 16 * 930), 1), 100);
         x.saw(0, 0, 1);
         x.test(0);
         CHECK.same("promise 30: bound(0, 2, 0)", x.simulate(seedFor(11), 1), 1);

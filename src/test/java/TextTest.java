@@ -10,6 +10,7 @@ public final class TextTest {
         shortTexts();
         load();
         loadForgets();
+        sweptAway();
         loadRefused();
         leftOut();
         CHECK.end();
@@ -155,8 +156,16 @@ public final class TextTest {
         x.set(1, 8);
         x.bound(1, 0, 300);
         x.level(0, 1, 9);
+        x.level(0, 0, 9);
+        x.sit(0, 1);
+        x.level(0, 1, 0);
+        x.level(0, 0, 0);
+        x.bring(0, 1, 3);
+        x.test(0);
         x.save(0);
         x.save(1);
+        x.level(0, 0, 9);
+        x.level(0, 3, 9);
         Check.write(x, "K");
         CHECK.same("promise 5: an office without commands", x.load(), 0);
         CHECK.sameState("promise 5: as a new object", x, Check.all(new ChairStamps()));
@@ -164,11 +173,31 @@ public final class TextTest {
         CHECK.refused("promise 5: slot 0 is empty", Check.STATE, () -> x.restore(0));
         CHECK.refused("promise 5: slot 1 is empty", Check.STATE, () -> x.restore(1));
         CHECK.same("promise 5: the text is kept", x.clearText(), 1);
+        CHECK.same("promise 5: none is sound", x.sound(), 0);
+        x.chair(1, 460);
+        CHECK.same("promise 5: the chair that was there is gone", x.save(0), 0);
+        for (int i = 0; i <= 8; i++) {
+            CHECK.same("promise 5: a chair then", x.chairOf(0, i), new int[] {1, 0, 0, 0, 460, -1, 0, 0, 0}[i]);
+        }
         ChairStamps y = Check.loaded("Kc0450t0");
         CHECK.refused("promise 5: commands are not remembered", Check.STATE, y::undo);
         CHECK.same("promise 5: load again", y.load(), 0);
         CHECK.same("promise 5: from the beginning", y.about(0), 1);
         CHECK.same("promise 5: tests from the beginning", y.about(3), 1);
+    }
+
+    /** Chairs that a load has swept away are not counted, nor do their stamps become void. */
+    private static void sweptAway() {
+        ChairStamps x = new ChairStamps();
+        x.chair(0, 450);
+        x.test(0);
+        Check.write(x, "K");
+        x.load();
+        CHECK.same("promise 5: no stamp is left", x.about(2), 0);
+        x.level(0, 0, 1);
+        CHECK.same("promise 15: no stamp to become void", x.about(5), 0);
+        CHECK.same("promise 21: no stamp to become void", x.bound(0, 0, 900), 0);
+        CHECK.same("promise 28: no chair is left", x.sound(), 0);
     }
 
     private static void loadRefused() {

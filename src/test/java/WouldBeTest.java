@@ -176,6 +176,27 @@ public final class WouldBeTest {
         CHECK.same("promise 27: wherever it stands", x.bestFloor(0), 3);
         x.chair(0, 450);
         CHECK.same("promise 27: another chair", x.bestFloor(1), 0);
+        x.level(0, 1, 9);
+        CHECK.same("promise 27: not the floor 0 any more", x.bestFloor(1), 2);
+        ChairStamps y = new ChairStamps();
+        y.chair(0, 450);
+        y.level(0, 2, 5);
+        y.floor(5, 0, 0, 0);
+        CHECK.same("promise 27: alike", y.bestFloor(0), 0);
+        y.level(1, 0, 4);
+        CHECK.same("promise 27: the only other one", y.bestFloor(0), 1);
+        y.undo();
+        y.undo();
+        CHECK.same("promise 27: a floor that is not there", y.bestFloor(0), 0);
+        y.floor(0, 0, 0, 0);
+        y.level(0, 2, 0);
+        y.level(0, 1, 3);
+        y.shim(0, 2, 3);
+        CHECK.same("promise 27: the floor 0, turned", y.bestFloor(0), 0);
+        Check.write(y, "Kc0450");
+        y.load();
+        y.level(0, 0, 7);
+        CHECK.same("promise 27: nor one from before", y.bestFloor(0), 0);
         CHECK.refused("promise 27: chair 2", Check.INDEX, () -> x.bestFloor(2));
         CHECK.refused("promise 27: chair -1", Check.INDEX, () -> x.bestFloor(-1));
     }
