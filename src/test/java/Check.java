@@ -4,18 +4,42 @@ final class Check {
         long answer();
     }
 
+    interface Make {
+        ChairStamps office();
+    }
+
+    interface Use {
+        long on(ChairStamps x);
+    }
+
+    interface UseOf {
+        long on(ChairStamps x, int v);
+    }
+
     static final Class<? extends RuntimeException> INDEX = IndexOutOfBoundsException.class;
     static final Class<? extends RuntimeException> ARGUMENT = IllegalArgumentException.class;
     static final Class<? extends RuntimeException> STATE = IllegalStateException.class;
 
     private int looked = 0;
     private int wrong = 0;
+    private String heading = "";
+
+    /** What is wrong from here on is told with these words before it. */
+    void heading(String words) {
+        heading = words.isEmpty() ? "" : words + ": ";
+    }
 
     void same(String what, long got, long due) {
         looked++;
         if (got != due) {
-            wrong++;
-            System.out.println(what + " answered " + got + ", due is " + due);
+            fault(what + " answered " + got + ", due is " + due);
+        }
+    }
+
+    void same(String what, String got, String due) {
+        looked++;
+        if (!got.equals(due)) {
+            fault(what + "\n  " + got + "\ndue is\n  " + due);
         }
     }
 
@@ -30,13 +54,49 @@ final class Check {
             }
             got = "threw " + e.getClass().getSimpleName();
         }
-        wrong++;
-        System.out.println(what + " " + got + ", due is " + due.getSimpleName());
+        fault(what + " " + got + ", due is " + due.getSimpleName());
+    }
+
+    /** The call throws what is due, and leaves the state, what is remembered, the slots and the text. */
+    void refusedLeaving(String what, Class<? extends RuntimeException> due, Make make, Use call) {
+        leaving(what, make, x -> refused(what, due, () -> call.on(x)));
+    }
+
+    /** The call leaves all as it is, whatever it answers. */
+    void changesNothing(String what, Make make, Use call) {
+        leaving(what, make, x -> call.on(x));
+    }
+
+    private void leaving(String what, Make make, java.util.function.Consumer<ChairStamps> call) {
+        for (int way = 0; way < Looks.WAYS; way++) {
+            ChairStamps x = make.office();
+            call.accept(x);
+            same(what + " has changed something", Looks.look(x, way), Looks.look(make.office(), way));
+        }
+    }
+
+    /** The least and the most value are taken; those beside them are refused and change nothing. */
+    void range(Class<? extends RuntimeException> due, Make make, int least, int most, UseOf call) {
+        for (int v : new int[] {least, most}) {
+            taken("the value " + v, () -> call.on(make.office(), v));
+        }
+        for (int v : new int[] {least - 1, most + 1, Integer.MIN_VALUE, Integer.MAX_VALUE}) {
+            refusedLeaving("the value " + v, due, make, x -> call.on(x, v));
+        }
+    }
+
+    void taken(String what, Call call) {
+        looked++;
+        try {
+            call.answer();
+        } catch (RuntimeException e) {
+            fault(what + " threw " + e.getClass().getSimpleName());
+        }
     }
 
     void fault(String what) {
         wrong++;
-        System.out.println(what);
+        System.out.println(heading + what);
     }
 
     int wrong() {
@@ -94,10 +154,6 @@ final class Check {
     }
 
     void sameState(String what, ChairStamps got, String due) {
-        looked++;
-        if (!all(got).equals(due)) {
-            wrong++;
-            System.out.println(what + ": the state is\n  " + all(got) + "\ndue is\n  " + due);
-        }
+        same(what + ": the state is", all(got), due);
     }
 }

@@ -76,21 +76,8 @@ public final class ReadingTest {
         CHECK.refused("promise 7: both", Check.INDEX, () -> x.chairOf(2, 9));
     }
 
-    /** A chair of guild 0 with these legs, on the floor 0. */
-    private static ChairStamps withLegs(int... lengths) {
-        ChairStamps x = new ChairStamps();
-        int most = Math.max(Math.max(lengths[0], lengths[1]), Math.max(lengths[2], lengths[3]));
-        x.chair(0, most);
-        for (int k = 0; k < 4; k++) {
-            if (lengths[k] < most) {
-                x.saw(0, k, most - lengths[k]);
-            }
-        }
-        return x;
-    }
-
     private static void idle(int due, int... lengths) {
-        CHECK.same("promise 7: idle leg", withLegs(lengths).chairOf(0, 5), due);
+        CHECK.same("promise 7: idle leg", Offices.withLegs(lengths).chairOf(0, 5), due);
     }
 
     private static void idleLegs() {
@@ -108,7 +95,7 @@ public final class ReadingTest {
     }
 
     private static void reason(int due, int... lengths) {
-        CHECK.same("promise 7: reason", withLegs(lengths).chairOf(0, 7), due);
+        CHECK.same("promise 7: reason", Offices.withLegs(lengths).chairOf(0, 7), due);
     }
 
     private static void reasons() {

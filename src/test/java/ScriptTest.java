@@ -163,79 +163,40 @@ public final class ScriptTest {
         CHECK.same("promises 29 and 30: they are no actions", x.undo(), 4);
     }
 
-    /** Does the turns of simulate by the calls of the face. */
-    private static int byCalls(ChairStamps x, long seed, int m) {
-        int given = x.about(4);
-        int voided = x.about(5);
-        for (int i = 0; i < m; i++) {
-            seed = seed * 6364136223846793005L + 1442695040888963407L;
-            int r = (int) (seed >>> 33);
-            try {
-                turn(x, r % 16, r / 16);
-            } catch (IndexOutOfBoundsException | IllegalArgumentException | IllegalStateException e) {
-                // What would throw an exception is left out.
-            }
-        }
-        return 10000 * (x.about(4) - given) + 100 * x.about(2) + x.about(5) - voided;
-    }
-
-    private static void turn(ChairStamps x, int kind, int q) {
-        switch (kind) {
-            case 0, 1 -> x.chair(q % 4, 400 + (q / 4) % 101);
-            case 2 -> x.floor(q % 9, (q / 9) % 9, (q / 81) % 9, (q / 729) % 9);
-            case 3 -> x.level(q % 4, (q / 4) % 4, (q / 16) % 12);
-            case 4, 5 -> x.saw(q % 10, (q / 16) % 4, 1 + (q / 64) % 9);
-            case 6 -> x.shim(q % 10, (q / 16) % 4, 1 + (q / 64) % 9);
-            case 7 -> x.bring(q % 10, (q / 16) % 4, (q / 64) % 4);
-            case 8, 9, 10 -> x.test(q % 10);
-            case 11 -> x.bound(q % 4, 2 + (q / 4) % 2, (q / 8) % 30);
-            default -> x.sit(q % 10, 1 + (q / 16) % 200);
-        }
-    }
-
-    /** A seed so that the first turn has the r that is asked for. */
-    private static long seedFor(int r) {
-        long inverse = 1;
-        for (int i = 0; i < 6; i++) {
-            inverse *= 2 - 6364136223846793005L * inverse;
-        }
-        return (((long) r << 33) - 1442695040888963407L) * inverse;
-    }
-
     private static void simulateByHand() {
         ChairStamps x = office();
-        CHECK.same("promise 30: the stamp that is there", x.simulate(seedFor(0), 1), 100);
-        CHECK.same("promise 30: test(0) again", x.simulate(seedFor(8), 1), 100);
-        CHECK.same("promise 30: test(1)", x.simulate(seedFor(8 + 16), 1), 10200);
-        CHECK.same("promise 30: test(2)", x.simulate(seedFor(8 + 16 * 2), 1), 100);
-        CHECK.same("promise 30: test(11 % 10)", x.simulate(seedFor(10 + 16 * 11), 1), 10200);
-        CHECK.same("promise 30: saw(0, 0, 1)", x.simulate(seedFor(4), 1), 1);
-        CHECK.same("promise 30: saw(1, 0, 1)", x.simulate(seedFor(5 + 16), 1), 100);
-        CHECK.same("promise 30: shim(0, 0, 1)", x.simulate(seedFor(6), 1), 1);
-        CHECK.same("promise 30: bring(0, 0, 0)", x.simulate(seedFor(7), 1), 100);
-        CHECK.same("promise 30: bring(0, 1, 1)", x.simulate(seedFor(7 + 16 * 80), 1), 1);
-        CHECK.same("promise 30: level(0, 0, 0)", x.simulate(seedFor(3), 1), 100);
-        CHECK.same("promise 30: level(0, 0, 1)", x.simulate(seedFor(3 + 16 * 16), 1), 1);
-        CHECK.same("promise 30: sit(0, 1)", x.simulate(seedFor(12), 1), 100);
-        CHECK.same("promise 30: sit(0, 61)", x.simulate(seedFor(15 + 16 * 16 * 60), 1), 1);
-        CHECK.same("promise 30: sit(0, 60)", x.simulate(seedFor(13 + 16 * 950), 1), 1);
-        CHECK.same("promise 30: sit(0, 59)", x.simulate(seedFor(14 + 16 * 930), 1), 100);
+        CHECK.same("promise 30: the stamp that is there", x.simulate(Turns.first(0), 1), 100);
+        CHECK.same("promise 30: test(0) again", x.simulate(Turns.first(8), 1), 100);
+        CHECK.same("promise 30: test(1)", x.simulate(Turns.first(8 + 16), 1), 10200);
+        CHECK.same("promise 30: test(2)", x.simulate(Turns.first(8 + 16 * 2), 1), 100);
+        CHECK.same("promise 30: test(11 % 10)", x.simulate(Turns.first(10 + 16 * 11), 1), 10200);
+        CHECK.same("promise 30: saw(0, 0, 1)", x.simulate(Turns.first(4), 1), 1);
+        CHECK.same("promise 30: saw(1, 0, 1)", x.simulate(Turns.first(5 + 16), 1), 100);
+        CHECK.same("promise 30: shim(0, 0, 1)", x.simulate(Turns.first(6), 1), 1);
+        CHECK.same("promise 30: bring(0, 0, 0)", x.simulate(Turns.first(7), 1), 100);
+        CHECK.same("promise 30: bring(0, 1, 1)", x.simulate(Turns.first(7 + 16 * 80), 1), 1);
+        CHECK.same("promise 30: level(0, 0, 0)", x.simulate(Turns.first(3), 1), 100);
+        CHECK.same("promise 30: level(0, 0, 1)", x.simulate(Turns.first(3 + 16 * 16), 1), 1);
+        CHECK.same("promise 30: sit(0, 1)", x.simulate(Turns.first(12), 1), 100);
+        CHECK.same("promise 30: sit(0, 61)", x.simulate(Turns.first(15 + 16 * 16 * 60), 1), 1);
+        CHECK.same("promise 30: sit(0, 60)", x.simulate(Turns.first(13 + 16 * 950), 1), 1);
+        CHECK.same("promise 30: sit(0, 59)", x.simulate(Turns.first(14 + 16 * 930), 1), 100);
         x.saw(0, 0, 1);
         x.test(0);
-        CHECK.same("promise 30: bound(0, 2, 0)", x.simulate(seedFor(11), 1), 1);
-        CHECK.same("promise 30: bound(0, 3, 0)", x.simulate(seedFor(11 + 16 * 4), 1), 1);
-        CHECK.same("promise 30: bound(0, 2, 1)", x.simulate(seedFor(11 + 16 * 8), 1), 100);
-        CHECK.same("promise 30: chair", x.simulate(seedFor(1 + 16 * 7), 1), 100);
-        CHECK.same("promise 30: floor", x.simulate(seedFor(2 + 16 * 7), 1), 100);
+        CHECK.same("promise 30: bound(0, 2, 0)", x.simulate(Turns.first(11), 1), 1);
+        CHECK.same("promise 30: bound(0, 3, 0)", x.simulate(Turns.first(11 + 16 * 4), 1), 1);
+        CHECK.same("promise 30: bound(0, 2, 1)", x.simulate(Turns.first(11 + 16 * 8), 1), 100);
+        CHECK.same("promise 30: chair", x.simulate(Turns.first(1 + 16 * 7), 1), 100);
+        CHECK.same("promise 30: floor", x.simulate(Turns.first(2 + 16 * 7), 1), 100);
     }
 
     private static void simulateLong() {
         long[] seeds = {0, 1, -1, 42, 123456789, Long.MIN_VALUE, Long.MAX_VALUE, -6364136223846793005L};
         for (long seed : seeds) {
             for (int m = 1; m <= 60; m++) {
-                int due = byCalls(new ChairStamps(), seed, m);
+                int due = Turns.byCalls(new ChairStamps(), seed, m);
                 CHECK.same("promise 30: " + m + " turns of " + seed, new ChairStamps().simulate(seed, m), due);
-                due = byCalls(office(), seed + m, m);
+                due = Turns.byCalls(office(), seed + m, m);
                 CHECK.same("promise 30: " + m + " turns of " + (seed + m), office().simulate(seed + m, m), due);
             }
         }
@@ -243,7 +204,7 @@ public final class ScriptTest {
         int voided = 0;
         for (int seed = 0; seed < 500; seed++) {
             int got = new ChairStamps().simulate(seed, 60);
-            CHECK.same("promise 30: seed " + seed, got, byCalls(new ChairStamps(), seed, 60));
+            CHECK.same("promise 30: seed " + seed, got, Turns.byCalls(new ChairStamps(), seed, 60));
             given += got / 10000;
             voided += got % 100;
         }
