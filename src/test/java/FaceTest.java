@@ -48,6 +48,13 @@ public final class FaceTest {
         "int restore(int) " + I + " " + S,
     };
 
+    /** What a constant may be by rule 5 of LANGUAGE.md. */
+    private static final Set<Class<?>> CONSTANTS = Set.of(int.class, long.class, boolean.class, char.class,
+        String.class, int[].class, long[].class, char[].class, byte[].class);
+    private static final int MOST_CLASSES = 12;
+    private static final int MOST_FIELDS = 20;
+    private static final int MOST_PARAMETERS = 7;
+
     private static final Check CHECK = new Check();
 
     public static void main(String[] args) {
@@ -56,6 +63,7 @@ public final class FaceTest {
         methods(face);
         constructorsAndFields(face);
         nestedClasses(face);
+        limits(face);
         CHECK.end();
     }
 
@@ -117,6 +125,28 @@ public final class FaceTest {
                 int modifiers = f.getModifiers();
                 boolean loose = Modifier.isStatic(modifiers) && !Modifier.isFinal(modifiers);
                 CHECK.same(c.getName() + "." + f.getName() + " is static state", loose ? 1 : 0, 0);
+            }
+        }
+    }
+
+    /** Rules 5 and 11 of LANGUAGE.md. */
+    private static void limits(Class<?> face) {
+        List<Class<?>> all = new ArrayList<>(Arrays.asList(face.getDeclaredClasses()));
+        all.add(face);
+        CHECK.same("too many classes", all.size() > MOST_CLASSES ? all.size() : 0, 0);
+        for (Class<?> c : all) {
+            int fields = 0;
+            for (Field f : c.getDeclaredFields()) {
+                boolean constant = Modifier.isStatic(f.getModifiers());
+                fields += constant ? 0 : 1;
+                boolean allowed = !constant || CONSTANTS.contains(f.getType());
+                CHECK.same(c.getName() + "." + f.getName() + " is no constant of rule 5", allowed ? 0 : 1, 0);
+            }
+            CHECK.same(c.getName() + " has too many fields", fields > MOST_FIELDS ? fields : 0, 0);
+            for (Method m : c.getDeclaredMethods()) {
+                int parameters = m.getParameterCount();
+                CHECK.same(c.getName() + "." + m.getName() + " takes too many parameters",
+                    parameters > MOST_PARAMETERS ? parameters : 0, 0);
             }
         }
     }

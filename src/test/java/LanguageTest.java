@@ -12,6 +12,7 @@ public final class LanguageTest {
         "\\bpackage\\b", "\\bimport\\b", "->", "::", "\\w+Exact\\b", "\\bsynchronized\\b", "\\bassert\\b",
         "\\bfinally\\b", "\\bcatch\\b", "\\btry\\b", "\\bSystem\\.(?!arraycopy)", "\\bThread\\b", "\\bRandom\\b",
         "\\bString\\.format\\b", "\\bequals\\b", "\\bhashCode\\b", "\\btoString\\b", "\\bvar\\b", "\\bObject\\b",
+        "\"\"\\s*\\+|\\+\\s*\"\"", "\\bstatic\\s*\\{",
         "Math\\.(?!max|min|abs|floorDiv|floorMod)", "[^\\x00-\\x7f]",
     };
     // Only here may a row be reached by an index: each of them looks at the index itself.
